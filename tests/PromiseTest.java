@@ -333,6 +333,14 @@ public final class PromiseTest {
         due(wills(x), 111111);
         due(text(x, "piece if (gap=1 and lean=10 or (gap=2 and (number = 1 or 3>4))) and 1=1 or gap=6 hold;"), 1);
         due(wills(x), 220002);
+        due(text(x, "aunt if " + "not ".repeat(45) + "1=2 hold;"), 1);
+        due(wills(x), 200002);
+        due(text(x, "aunt if " + "not ".repeat(44) + "1=2 hold;"), 1);
+        due(wills(x), 0);
+        due(text(x, "aunt if 1=2" + " or 1=2".repeat(25) + " or gap=1hold;"), 1);
+        due(wills(x), 200000);
+        due(text(x, "aunt if 1=1" + " and 1=1".repeat(20) + " and gap=1hold;"), 1);
+        due(wills(x), 200000);
         // in place of all; a fault leaves them
         due(text(x, "aunt hold;"), 1);
         due(text(x, "aunt stand; girl"), -116);
@@ -370,7 +378,10 @@ public final class PromiseTest {
             "aunt if ( ) say;", "aunt if not say;", "aunt if not not", "aunt if aunt = 1 say;", "aunt say;\tgirl say;",
             "aunt say; 7", "12345", "aunt if 1 2", "aunt if 1=1 5", "aunt if if", "aunt hold; \u00e9",
             "aunt say;aunt say;aunt say;aunt say;aunt say;aunt say;aunt say;aunt hold; aunt say;",
-            "aunt say;aunt say;aunt say;aunt say;aunt say;aunt say;aunt say;aunt hold;;"};
+            "aunt say;aunt say;aunt say;aunt say;aunt say;aunt say;aunt say;aunt hold;;",
+            "if say;", "aunt if (1=1; say;", "aunt say)", "aunt say X", "aunt if 00012 < lean say;", "auntz say;",
+            "aunt if lean < 1 if", "aunt if 1 and", ";".repeat(200), "7".repeat(200), "z".repeat(200),
+            "aunt if " + "(".repeat(192), "aunt if 1=1 say;" + " ".repeat(184), " ".repeat(199) + "z"};
         int[] places = {0, 2, 4, 5, 8, 10, 4, 9, 0,
             5, 0, 0, 9, 8, 13,
             15, 17, 14, 15,
@@ -378,7 +389,10 @@ public final class PromiseTest {
             11, 15, -1,
             10, 12, 15, 8, 9,
             10, 0, 10, 12, 8, 11,
-            74, 73};
+            74, 73,
+            0, 12, 8, 9, 8, 0,
+            17, 10, 0, 0, 0,
+            11, -1, 199};
         for (int i = 0; i < texts.length; i++) {
             DominoKin x = new DominoKin();
             due(text(x, texts[i]), places[i] < 0 ? 1 : -100 - places[i]);
@@ -508,6 +522,32 @@ public final class PromiseTest {
         due(x.roomFor(2), BAD);
         due(x.roomFor(-1), BAD);
         due(x.state(0), 0);
+        // the father falls in room 4, so the girl had best be in the last one
+        x.change(1, 3, 4);
+        due(x.roomFor(0), 5);
+        due(x.pieceOf(0, 3), 3);
+        lastYear();
+    }
+
+    /** A girl who leans 1 a year: 32 in year 15, and with a word of 6 she pays there first. */
+    private static void lastYear() {
+        DominoKin x = of(4, 17, 6, 0, 4, 35, 6, 1);
+        x.ends(16);
+        at(16);
+        due(x.when(0), 15);
+        x.ends(15);
+        due(x.when(0), NONE);
+        x.ends(16);
+        at(19);
+        // she bears 38: 50 in year 15
+        due(x.itself(1), 15);
+        at(36);
+        // as nobody says: 1 is worth something in year 15 alone
+        text(x, "piece stand;");
+        due(x.times(9, 1), 9);
+        due(x.times(9, 2), 0);
+        x.ends(15);
+        due(x.times(9, 1), 0);
     }
 
     private static void alone() {
@@ -681,6 +721,20 @@ public final class PromiseTest {
         due(x.bars(0, 3), 1);
         x.ends(1);
         due(x.line(4, 3), 1);
+        // who is held doesn't fall, but nobody has to be told
+        DominoKin y = of(2, 44, 0, 0);
+        text(y, "piece hold;");
+        at(27);
+        due(y.bars(1, 1), NONE);
+        at(26);
+        due(y.line(1, 1), 0);
+        // four that must all be told: in one room, and far from falling by themselves
+        DominoKin z = of(4, 40, 5, 0, 4, 40, 5, 0, 4, 40, 5, 0, 4, 40, 5, 0);
+        due(z.line(4, 15), 4);
+        due(z.line(4, 14), 3);
+        due(z.line(3, 15), NONE);
+        at(27);
+        due(z.bars(4, 15), NONE);
     }
 
     private static void games() {
@@ -807,6 +861,7 @@ public final class PromiseTest {
         due(x.liar(), NONE);
         x.report(0, 0, 18, 18);
         // either may be wrong: the least
+        due(x.lone(0), 0);
         due(x.liar(), 0);
         x.report(0, 0, 9, 27);
         due(x.liar(), 0);
@@ -820,6 +875,18 @@ public final class PromiseTest {
         // each two go against each other: no one report
         x.report(0, 0, 18, 18);
         due(x.liar(), NONE);
+        // one alone fits: an eldest who leans 9 at first and bears 32; 31 is the most of the first five years
+        DominoKin y = new DominoKin();
+        y.saying(3, 0);
+        y.saying(4, 0);
+        y.report(0, 0, 9, 9);
+        y.report(8, 0, 55, 55);
+        y.report(5, 1, 0, 0);
+        due(y.lone(0), 1);
+        due(y.lone(1), 3);
+        due(y.lone(2), 0);
+        due(y.lone(3), 9);
+        due(y.liar(), NONE);
     }
 
     private static void lots() {
@@ -1258,6 +1325,20 @@ public final class PromiseTest {
         due(x.again(), 3);
         due(x.again(), 3);
         due(new DominoKin().again(), NONE);
+        // all eight rules are kept, with what they ask
+        DominoKin y = of(1, 5, 5, 5);
+        String seven = "girl say;girl say;girl say;girl say;girl say;girl say;";
+        due(text(y, seven + "aunt if gap=4 stand;aunt if gap=5 hold;"), 8);
+        y.keep();
+        text(y, "aunt stand;aunt if gap < 3 say;");
+        due(y.pieceOf(0, 9), 1);
+        due(y.again(), 1);
+        due(y.many(1), 8);
+        due(y.pieceOf(0, 9), 2);
+        y.change(0, 2, 4);
+        due(y.pieceOf(0, 9), 1);
+        y.change(0, 2, 3);
+        due(y.pieceOf(0, 9), 0);
     }
 
     private static void spoil(DominoKin x) {
