@@ -1,42 +1,5 @@
-import java.nio.charset.StandardCharsets;
-
 /** Each promise by itself, worked out by hand from the document: ordinary inputs, edges, wrong inputs. */
-public final class PromiseTest {
-    private static final int BAD = -1, FULL = -2, NONE = -3, STATE = -4;
-    private static int wrong = 0;
-    private static int promise = 0;
-    private static int row = 0;
-
-    private static void at(int number) {
-        promise = number;
-        row = 0;
-    }
-
-    private static void due(int got, int want) {
-        row++;
-        if (got == want) return;
-        wrong++;
-        System.out.println("promise " + promise + ", row " + row + " (line "
-            + new Throwable().getStackTrace()[1].getLineNumber() + "): answered " + got + ", due is " + want);
-    }
-
-    private static int text(DominoKin x, String rules) {
-        byte[] bytes = rules.getBytes(StandardCharsets.ISO_8859_1);
-        for (int i = 0; i < bytes.length; i += 8) {
-            long eight = 0;
-            int n = Math.min(8, bytes.length - i);
-            for (int j = 0; j < n; j++) eight |= (bytes[i + j] & 255L) << 8 * j;
-            x.feed(eight, n);
-        }
-        return x.rules();
-    }
-
-    private static DominoKin of(int... fours) {
-        DominoKin x = new DominoKin();
-        for (int i = 0; i < fours.length; i += 4) x.piece(fours[i], fours[i + 1], fours[i + 2], fours[i + 3]);
-        return x;
-    }
-
+public final class PromiseTest extends Check {
     public static void main(String[] args) {
         newObject();
         piece();
@@ -66,8 +29,7 @@ public final class PromiseTest {
         acts();
         many();
         kept();
-        System.out.println(wrong == 0 ? "all promises hold" : wrong + " answers are not as due");
-        if (wrong != 0) System.exit(1);
+        finish();
     }
 
     private static void newObject() {
