@@ -1,4 +1,5 @@
 import java.nio.charset.StandardCharsets;
+import java.util.Arrays;
 
 /** What the tests share; a test stands under it, so as to use it by short names. */
 class Check {
@@ -78,8 +79,13 @@ class Check {
         return x.goAll(0, 0, 1);
     }
 
-    /** Numbers that a range from low to high leaves out: the next on both sides, and the farthest. */
+    /**
+     * Numbers that a range from low to high leaves out: the next on both sides, the farthest, and such as would come to
+     * its ends if only some of their bits were looked at.
+     */
     static int[] outside(int low, int high) {
-        return new int[] {low - 1, high + 1, LEAST_INT, MOST_INT};
+        int[] all = {low - 1, high + 1, LEAST_INT, MOST_INT, low + 32, high - 32, low + 256, high - 256, low + 65536,
+            high - 65536, LEAST_INT + low + 1};
+        return Arrays.stream(all).filter(v -> v < low || v > high).toArray();
     }
 }

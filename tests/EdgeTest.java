@@ -25,6 +25,8 @@ public final class EdgeTest extends Check {
         plansOfFewerYears();
         firstOfTheBest();
         waysOfMost();
+        waysOfHolds();
+        asItIsNow();
         lines();
         bars();
         games();
@@ -380,6 +382,12 @@ public final class EdgeTest extends Check {
         // 60 is 12 more than she bears from a gap of 1 on
         due(y.gapFor(1), 1);
         due(y.pieceOf(1, 2), 0);
+        // sixteen years count: a girl of 11 leans 26 in YEAR 15, and pays by the widest gap alone
+        DominoKin z = of(4, 11, 0, 0);
+        z.ends(16);
+        due(z.gapFor(0), 9);
+        z.ends(15);
+        due(z.gapFor(0), 0);
     }
 
     private static void roomsForTheRest() {
@@ -397,6 +405,16 @@ public final class EdgeTest extends Check {
             x.year();
             due(x.roomFor(1), 0);
         }
+        // sixteen years count: the aunt pays in YEAR 14, and leans on the girl, who pays in YEAR 15 by that
+        DominoKin y = of(1, 75, 0, 2, 4, 20, 0, 0);
+        y.ends(16);
+        due(y.roomFor(1), 3);
+        due(y.roomFor(0), 0);
+        y.change(1, 3, 5);
+        due(y.roomFor(0), 4);
+        y.ends(15);
+        due(y.roomFor(1), 0);
+        due(y.roomFor(0), 0);
     }
 
     // ---- which falls by itself when, what word it takes, how far a fall goes, chains
@@ -465,6 +483,10 @@ public final class EdgeTest extends Check {
         y.ends(16);
         due(y.wave(0, 15), 1);
         due(y.wave(0, 16), 3);
+        at("3: WAVE: in which nobody is told");
+        DominoKin z = of(2, 40, 0, 0, 1, 0, 0, 3, 2, 40, 0, 5);
+        due(z.wave(1, 1), 2);
+        due(z.itself(0), 1);
     }
 
     private static void chains() {
@@ -569,6 +591,67 @@ public final class EdgeTest extends Check {
         due(x.ways(4), 2401);
     }
 
+    private static void waysOfHolds() {
+        at("3: WORTH of a hold: who pays nothing may be told all the same");
+        int[] all = {1, 6, 36, 216, 1296};
+        DominoKin x = sixAunts();
+        text(x, "piece hold;");
+        for (int n = 0; n <= 4; n++) {
+            due(x.ways(n), all[n]);
+            due(x.best(n), n);
+            for (int i = 0; i < n; i++) due(x.ith(n, i), 1);
+        }
+        // the other one tells nobody
+        int[] value = {0, 1, 1, 2, 2};
+        for (int n = 1; n <= 4; n++) {
+            due(x.game(n), value[n]);
+            due(x.play(n), 1);
+        }
+        // who is held leans less, and falls later
+        DominoKin y = of(2, 40, 0, 0, 4, 50, 0, 1);
+        text(y, "father hold; piece stand;");
+        for (int year = 0; year < 4; year++) y.saying(year, 0);
+        // 44 in YEAR 1, if he isn't held: then he falls, and leans on her
+        due(y.line(1, 1), NONE);
+        due(y.line(2, 1), 0);
+        due(y.line(3, 3), 0);
+        due(y.bars(2, 3), 1);
+        due(y.best(2), 1);
+        due(y.ways(2), 4);
+        due(y.game(2), 0);
+    }
+
+    private static void asItIsNow() {
+        at("3: each is asked as it is now, not as it was when something was asked");
+        DominoKin x = over(fourGirls());
+        x.ends(12);
+        for (int k = 0; k < 4; k++) x.change(k, 1, 0);
+        due(x.best(4), 0);
+        x.change(2, 1, 50);
+        due(x.ways(1), 1);
+        x.change(3, 1, 50);
+        due(x.line(2, 12), 2);
+        x.change(3, 1, 0);
+        due(x.bars(1, 12), 3);
+        x.change(3, 1, 50);
+        due(x.ith(1, 0), 3);
+        x.change(2, 4, 1);
+        due(x.ith(1, 0), 4);
+        x.change(3, 2, 9);
+        due(x.game(1), 13);
+        x.change(3, 4, 1);
+        due(x.play(1), 0);
+        due(x.game(1), 0);
+        due(fourGirls().ways(4), 24);
+        due(fourGirls().ith(4, 3), 4);
+        due(fourGirls().line(4, 15), 4);
+        due(fourGirls().bars(4, 15), NONE);
+        due(fourGirls().game(4), 18);
+        due(fourGirls().play(4), 1);
+        due(fourGirls().prove(4), 4);
+        due(fourGirls().best(4), 36);
+    }
+
     private static void lines() {
         at("26 line: the fewest ACTS that aren't 0: none, and most");
         DominoKin x = fourGirls();
@@ -637,6 +720,19 @@ public final class EdgeTest extends Check {
             due(new DominoKin().game(n), 0);
             due(sixAunts().game(n), 0);
         }
+        at("28 game: in turn: all that is told counts, whoever told it");
+        // 11, 10, 9 and 8 to be had in one room; the aunts pay nothing
+        DominoKin z = of(4, 40, 7, 0, 4, 40, 6, 0, 4, 40, 5, 0, 1, 0, 0, 0, 4, 42, 4, 0);
+        int[] three = {0, 11, 11, 21, 21};
+        for (int n = 1; n <= 4; n++) due(z.game(n), three[n]);
+        // none but one is left, who falls by herself in YEAR 2, WORTH 1: the other one can but let it be
+        DominoKin w = of(4, 60, 0, 0);
+        text(w, "girl if year=0 stand; girl if year>1 stand;");
+        // told in YEAR 1 she pays 4, by the other one, who doesn't
+        due(w.game(1), 0);
+        due(w.game(2), 0);
+        due(w.game(3), 1);
+        due(w.play(3), 0);
         at("28 game: the other one wants as little");
         // a girl of 61 leans 62 in YEAR 1, and would fall by herself: WORTH 1; held, she leans 52
         DominoKin y = of(4, 61, 0, 0);
@@ -788,6 +884,14 @@ public final class EdgeTest extends Check {
         due(y.lone(0), 3);
         due(y.lone(1), 5);
         due(y.lone(2), 7);
+        // of 45 it pays by what it bears from a gap of 3 on: 46 by a gap of 2 is 1 too much
+        y.forget();
+        y.report(0, 0, 45, 45);
+        y.report(1, 1, 1, 1);
+        y.report(2, 0, 47, 47);
+        due(y.lone(0), 7);
+        due(y.lone(1), 5);
+        due(y.lone(2), 3);
     }
 
     private static void liars() {

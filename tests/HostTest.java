@@ -30,6 +30,8 @@ public final class HostTest extends Check {
         manyOfMost();
         keepsAll();
         keepsTheLatest();
+        keepsEachOfAll();
+        keepsReports();
         keepsNotTheHost();
         afterManyCalls();
         finish();
@@ -637,6 +639,58 @@ public final class HostTest extends Check {
         y.change(0, 1, 60);
         due(y.again(), 1);
         due(y.pieceOf(0, 1), 50);
+    }
+
+    private static void keepsEachOfAll() {
+        at("51 keep: each of six PIECES, eight RULES, six REPORTS");
+        DominoKin x = of(1, 0, 0, 0, 2, 1, 1, 1, 3, 2, 2, 2, 4, 3, 3, 3, 5, 4, 4, 4, 4, 5, 5, 5);
+        text(x, "aunt stand;" + "aunt say;".repeat(6) + "girl stand;");
+        for (int i = 0; i < 6; i++) x.report(i, 0, i, 90 + i);
+        x.change(5, 4, 1);
+        x.keep();
+        int[] fit = new int[4];
+        for (int what = 0; what < 4; what++) fit[what] = x.lone(what);
+        for (int k = 0; k < 6; k++) {
+            x.change(k, 1, 50);
+            x.change(k, 2, 9);
+            x.change(k, 3, 5 - k);
+            x.change(k, 4, k == 5 ? 0 : 1);
+            x.remake(k, 2);
+        }
+        text(x, "piece hold;");
+        x.forget();
+        for (int i = 0; i < 6; i++) x.report(0, 1, 16, 16);
+        due(x.again(), 6);
+        int[] kinds = {1, 2, 3, 4, 5, 4}, bears = {95, 30, 30, 44, 46, 40}, wills = {1, 0, 0, 1, 1, 1};
+        for (int k = 0; k < 6; k++) {
+            int[] now = {kinds[k], k, k, k, k == 5 ? 1 : 0};
+            for (int what = 0; what < 5; what++) due(x.pieceOf(k, what), now[what]);
+            due(x.pieceOf(k, 6), bears[k]);
+            due(x.pieceOf(k, 9), wills[k]);
+        }
+        for (int what = 0; what < 4; what++) due(x.lone(what), fit[what]);
+    }
+
+    /** Six reports, of which the one told is wrong by one thing: by that its contents are seen. */
+    private static void keepsReports() {
+        at("51 keep: REPORTS, by what each says");
+        for (int i = 0; i < 6; i++) {
+            DominoKin x = new DominoKin();
+            for (int r = 0; r < 6; r++) x.report(r == i ? 1 : 0, r == i ? 1 : 0, r == i ? 1 : 9, r == i ? 2 : 9);
+            // of 9 at first nobody pays in YEAR 0 but fathers by wide gaps: 15 by 9 bears 14
+            int fit = x.lone(0);
+            due(fit, 1);
+            x.keep();
+            x.forget();
+            for (int r = 0; r < 6; r++) x.report(2, 0, 0, 99);
+            due(x.lone(0), 500);
+            x.again();
+            due(x.lone(0), 1);
+            due(x.lone(1), 2);
+            due(x.lone(2), 9);
+            due(x.lone(3), 9);
+            due(x.forget(), 6);
+        }
     }
 
     private static void keepsNotTheHost() {

@@ -89,6 +89,12 @@ public final class RefusalTest extends Check {
         return x;
     }
 
+    private static DominoKin allFallen() {
+        DominoKin x = filled();
+        for (int k = 0; k < 6; k++) x.change(k, 4, 1);
+        return x;
+    }
+
     /** "girl hold;" is its one rule then. */
     private static DominoKin filledButTape(String tape) {
         DominoKin x = filled();
@@ -288,6 +294,15 @@ public final class RefusalTest extends Check {
         refuses(NEW, BAD, x -> x.least(0));
         refuses(NEW, BAD, x -> x.wave(0, 0));
         for (int n : outside(0, 16)) refusesEverywhere(BAD, x -> x.wave(0, n));
+        // whatever bits of the number come to, and though all are FALLEN
+        for (int k : outside(0, 5)) {
+            refuses(RefusalTest::allFallen, BAD, x -> x.when(k));
+            refuses(RefusalTest::allFallen, BAD, x -> x.itself(k));
+            refuses(RefusalTest::allFallen, BAD, x -> x.least(k));
+            refuses(RefusalTest::allFallen, BAD, x -> x.wave(k, 0));
+            refuses(RefusalTest::allFallen, BAD, x -> x.pieceOf(k, 4));
+        }
+        for (int what : outside(-1, 5)) refuses(RefusalTest::allFallen, BAD, x -> x.chains(what));
         at("19 itself: NONE");
         refuses(FILLED, NONE, x -> x.itself(0));
         refuses(OVER, NONE, x -> x.itself(2));

@@ -32,6 +32,7 @@ public final class StreetTest extends Check {
         faultsOfOtherBytes();
         faultsByPlace();
         firstRuleThatHolds();
+        inPlaceOfAll();
         factsAtTheirEdges();
         tapeIsUsedUp();
         finish();
@@ -387,6 +388,13 @@ public final class StreetTest extends Check {
         // 9999 is not any fact, nor cut
         text(x, "aunt if 9999 = 9999 and 9999 > 9998 and not 9999 = 99 hold;");
         due(x.pieceOf(0, 9), 2);
+        // 0 on both sides, by each sign
+        text(x, "aunt if 0=0 hold;");
+        due(x.pieceOf(0, 9), 2);
+        text(x, "aunt if 0<0 or 0>0 hold;");
+        due(x.pieceOf(0, 9), 0);
+        text(x, "aunt if 0<0 hold; aunt if 1=1 and 0<0 hold; aunt if not 0<0 stand;");
+        due(x.pieceOf(0, 9), 1);
     }
 
     private static void namesAndBlanks() {
@@ -525,6 +533,20 @@ public final class StreetTest extends Check {
         // the eighth tells as well
         text(x, "aunt if 1=2 hold;".repeat(7) + "girl stand;");
         due(wills(x), 11);
+    }
+
+    private static void inPlaceOfAll() {
+        at("13 rules: in place of all, however often");
+        DominoKin x = of(1, 0, 7, 0);
+        for (int i = 0; i < 10; i++) {
+            due(text(x, "aunt if gap=8" + " or gap=8".repeat(15) + " or gap=" + (7 + i % 2) + " hold;"), 1);
+            due(x.pieceOf(0, 9), i % 2 == 0 ? 2 : 0);
+            due(x.many(1), 1);
+        }
+        due(text(x, "aunt stand;"), 1);
+        due(x.pieceOf(0, 9), 1);
+        due(text(x, ""), 0);
+        due(x.pieceOf(0, 9), 0);
     }
 
     private static int wills(DominoKin x) {

@@ -1081,13 +1081,16 @@ public final class DominoKin {
 
         private void split(byte[] text, int size) {
             int found = 0;
-            int end = 0;
-            for (int from = 0; from < size; from = end) {
-                end = endOf(text, from, size);
-                if (text[from] == ' ') continue;
-                tokens[found] = tokenOf(text, from, end);
-                places[found] = from;
-                found++;
+            int from = 0;
+            // each round passes a byte at least, so there are no more rounds than bytes
+            for (int i = 0; i < MOST_BYTES && from < size; i++) {
+                int end = endOf(text, from, size);
+                if (text[from] != ' ') {
+                    tokens[found] = tokenOf(text, from, end);
+                    places[found] = from;
+                    found++;
+                }
+                from = end;
             }
             tokens[found] = END;
             places[found] = size;
