@@ -53,13 +53,24 @@ public final class LanguageTest {
         due(makers.length == 1 && Modifier.isPublic(makers[0].getModifiers()), "one public constructor");
         due(Modifier.isFinal(DominoKin.class.getModifiers()), "the class is final");
         Class<?>[] inside = DominoKin.class.getDeclaredClasses();
-        due(inside.length <= 12, "at most twelve classes");
+        due(inside.length < 12, "at most twelve classes");
+        sizes(DominoKin.class);
         for (Class<?> c : inside) {
             due(Modifier.isStatic(c.getModifiers()), c.getName() + " is static");
-            for (Field f : c.getDeclaredFields()) {
-                due(!Modifier.isStatic(f.getModifiers()) || Modifier.isFinal(f.getModifiers()), f.getName() + " is final");
-            }
+            sizes(c);
+            for (Method m : c.getDeclaredMethods()) due(!due.contains(m.getName()), m.getName() + " has no public name");
         }
+    }
+
+    private static void sizes(Class<?> c) {
+        int fields = 0;
+        for (Field f : c.getDeclaredFields()) {
+            boolean fixed = Modifier.isStatic(f.getModifiers());
+            due(!fixed || Modifier.isFinal(f.getModifiers()), f.getName() + " is final");
+            if (!fixed) fields++;
+        }
+        due(fields <= 20, c.getName() + " has some twenty fields");
+        for (Method m : c.getDeclaredMethods()) due(m.getParameterCount() <= 7, m.getName() + " has few parameters");
     }
 
     private static void words() throws Exception {

@@ -15,6 +15,8 @@ public final class ModelTest {
         "taken", "taken", "act", "act", "act", "trace", "trace", "many", "many", "keep", "again"};
 
     private static Random random;
+    /** Whether arguments of this run are often such as no range has. */
+    private static boolean wild;
     private static final List<String> said = new ArrayList<>();
     private static int wrong = 0;
 
@@ -33,6 +35,7 @@ public final class ModelTest {
         DominoKin x = new DominoKin();
         Model m = new Model();
         said.clear();
+        wild = random.nextInt(5) == 0;
         if (random.nextInt(3) > 0) {
             for (int i = random.nextInt(6); i >= 0; i--) {
                 call(x, m, "piece", 1 + random.nextInt(5), random.nextInt(60), random.nextInt(10), random.nextInt(6));
@@ -72,7 +75,13 @@ public final class ModelTest {
         System.out.println("  answered " + got + ", due is " + due);
     }
 
+    private static int anywhere(int low, int high) {
+        int[] all = Check.outside(low, high);
+        return random.nextInt(4) == 0 ? random.nextInt() : all[random.nextInt(all.length)];
+    }
+
     private static int near(int low, int high) {
+        if (wild && random.nextInt(5) == 0) return anywhere(low, high);
         int r = random.nextInt(40);
         if (r == 0) return low - 1;
         if (r == 1) return high + 1;
@@ -84,6 +93,7 @@ public final class ModelTest {
 
     /** Long plans are dear in the model, so they are rare. */
     private static int years(int low) {
+        if (wild && random.nextInt(5) == 0) return anywhere(low, 4);
         int r = random.nextInt(60);
         if (r == 0) return 5;
         if (r == 1) return low - 1;
