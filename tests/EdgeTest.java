@@ -388,6 +388,13 @@ public final class EdgeTest extends Check {
         due(z.gapFor(0), 9);
         z.ends(15);
         due(z.gapFor(0), 0);
+        // what another one pays in YEAR 15 counts by each gap, the least too
+        DominoKin w = of(1, 0, 5, 0, 4, 17, 6, 0);
+        w.ends(16);
+        due(w.on(15), 0);
+        due(w.on(16), 10);
+        due(w.gapFor(0), 0);
+        due(w.roomFor(0), 0);
     }
 
     private static void roomsForTheRest() {

@@ -393,6 +393,8 @@ public final class StreetTest extends Check {
         due(x.pieceOf(0, 9), 2);
         text(x, "aunt if 0<0 or 0>0 hold;");
         due(x.pieceOf(0, 9), 0);
+        text(x, "aunt if 0<0 or 0<0 hold;");
+        due(x.pieceOf(0, 9), 0);
         text(x, "aunt if 0<0 hold; aunt if 1=1 and 0<0 hold; aunt if not 0<0 stand;");
         due(x.pieceOf(0, 9), 1);
     }
@@ -538,7 +540,7 @@ public final class StreetTest extends Check {
     private static void inPlaceOfAll() {
         at("13 rules: in place of all, however often");
         DominoKin x = of(1, 0, 7, 0);
-        for (int i = 0; i < 10; i++) {
+        for (int i = 0; i < 19; i++) {
             due(text(x, "aunt if gap=8" + " or gap=8".repeat(15) + " or gap=" + (7 + i % 2) + " hold;"), 1);
             due(x.pieceOf(0, 9), i % 2 == 0 ? 2 : 0);
             due(x.many(1), 1);
