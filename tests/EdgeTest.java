@@ -216,9 +216,10 @@ public final class EdgeTest extends Check {
 
     private static void ends() {
         at("9 ends: STATE: v is below YEAR");
-        DominoKin x = new DominoKin();
-        x.ends(16);
         for (int year = 0; year <= 16; year++) {
+            DominoKin x = new DominoKin();
+            x.ends(16);
+            for (int y = 0; y < year; y++) x.year();
             int end = 16;
             for (int v = 1; v <= 16; v++) {
                 due(x.ends(v), v < year ? STATE : end);
@@ -226,9 +227,8 @@ public final class EdgeTest extends Check {
                 due(x.state(1), end);
                 due(x.state(3), year >= end ? 1 : 0);
             }
-            x.year();
+            due(x.state(0), year);
         }
-        due(x.state(0), 16);
     }
 
     private static void anew() {

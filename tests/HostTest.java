@@ -167,9 +167,9 @@ public final class HostTest extends Check {
 
     private static void sheetsOfAllSizes() {
         at("41 sheet: a row of n (0 to 40) of a sort (0 to 4), all 0: 1; 42 write, 43 item: -12");
-        DominoKin x = new DominoKin();
         int[] sizes = {0, 1, 2, 39, 40};
         for (int sheet = 0; sheet < 4; sheet++) {
+            DominoKin x = new DominoKin();
             for (int sort = 0; sort < 5; sort++) {
                 for (int n : sizes) {
                     due(x.sheet(sheet, sort, n), 1);

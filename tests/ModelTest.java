@@ -44,7 +44,7 @@ public final class ModelTest {
             for (int i = 0; i < 6; i++) call(x, m, "saying", random.nextInt(8), random.nextInt(16));
         }
         // whole texts take many feeds: what is counted are calls, 512 at most
-        while (said.size() < 480 && wrong == 0) {
+        while (said.size() < 440 && wrong == 0) {
             String name = NAMES[random.nextInt(NAMES.length)];
             if (name.equals("text")) text(x, m);
             else call(x, m, name, arguments(name));

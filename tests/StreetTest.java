@@ -435,8 +435,8 @@ public final class StreetTest extends Check {
 
     private static void nots() {
         at("2: ONE: { not } (..): none, one, and many");
-        DominoKin x = of(1, 0, 0, 0);
         for (int n = 0; n <= 45; n++) {
+            DominoKin x = of(1, 0, 0, 0);
             due(text(x, "aunt if " + "not ".repeat(n) + "1=1 hold;"), 1);
             due(x.pieceOf(0, 9), n % 2 == 0 ? 2 : 0);
         }
